@@ -3,7 +3,7 @@ import java.util.function.ToIntFunction;
 
 /** Long runs of calls, chosen by fixed seeds, on the program and on the model: each answer must be the same. */
 public final class ModelTest {
-    private static final int RUNS = 3000;
+    private static final int RUNS = 1500;
     private static final int CALLS = 512;
 
     /** One call for both. */
@@ -22,13 +22,17 @@ public final class ModelTest {
     private final VisitHours x = new VisitHours();
     private final Model model = new Model();
     private String toWrite = "";
+    private int opening = 0;
     private final boolean wild;
     private final boolean far;
+    /** Many prisoners with long lists and high ranks, and few days that go by: hours and weeks become full. */
+    private final boolean dense;
 
     private ModelTest(long seed) {
         random = new Random(seed);
         wild = seed % 5 == 0;
         far = seed % 7 == 0;
+        dense = seed % 2 == 0;
     }
 
     /** Mostly a number from least to most, now and then one beside them or far away. */
@@ -48,7 +52,7 @@ public final class ModelTest {
     }
 
     private int visitor() {
-        return number(0, 9) % 10;
+        return random.nextInt(10);
     }
 
     private int visitorOdd() {
@@ -106,7 +110,29 @@ public final class ModelTest {
         return new Pair("append(" + c + ")", o -> o.append(c), o -> o.append(c));
     }
 
+    private Pair open() {
+        opening++;
+        if (opening <= 8) {
+            int rank = random.nextInt(4) == 0 ? random.nextInt(4) : 3;
+            return new Pair("addPrisoner(" + rank + ")", o -> o.addPrisoner(rank), o -> o.addPrisoner(rank));
+        }
+        int p = opening % 8;
+        int v = random.nextInt(10);
+        return new Pair("list(" + p + ", " + v + ", true)", o -> o.list(p, v, true), o -> o.list(p, v, true));
+    }
+
+    private int listed(int p) {
+        for (int tries = 0; tries < 20; tries++) {
+            int v = random.nextInt(10);
+            if (p >= 0 && p < model.about(0) && (model.prisoner(p, 1) >> v & 1) == 1) return v;
+        }
+        return random.nextInt(10);
+    }
+
     private Pair choose() {
+        if (dense && opening < 60) {
+            return open();
+        }
         if (!toWrite.isEmpty()) {
             char c = toWrite.charAt(0);
             toWrite = toWrite.substring(1);
@@ -123,7 +149,9 @@ public final class ModelTest {
                 toWrite = text();
                 return new Pair("clearText()", VisitHours::clearText, Model::clearText);
             case 1:
-            case 2: return new Pair("load()", VisitHours::load, Model::load);
+            case 2:
+                if (dense && random.nextInt(10) != 0) return choose();
+                return new Pair("load()", VisitHours::load, Model::load);
             case 3: return new Pair("errorPosition()", VisitHours::errorPosition, Model::errorPosition);
             case 4:
             case 5: return new Pair("save(" + slot + ")", o -> o.save(slot), o -> o.save(slot));
@@ -136,12 +164,12 @@ public final class ModelTest {
     private Pair action() {
         int p = prisoner();
         int q = prisoner();
-        int v = random.nextInt(10) == 0 ? visitorOdd() : Math.floorMod(visitor(), 5 + p % 3 + 1);
+        int v = random.nextInt(10) == 0 ? visitorOdd() : random.nextInt(3) == 0 ? visitor() % 5 : listed(p);
         int k = bookingNumber();
         int day = day();
         int hour = random.nextInt(3) == 0 ? number(0, 7) : random.nextInt(2);
-        boolean is = random.nextInt(4) != 0;
-        switch (random.nextInt(22)) {
+        boolean is = random.nextInt(dense ? 20 : 4) != 0;
+        switch (dense && random.nextInt(2) == 0 ? 9 : random.nextInt(22)) {
             case 0: {
                 int rank = number(0, 3);
                 return new Pair("addPrisoner(" + rank + ")", o -> o.addPrisoner(rank), o -> o.addPrisoner(rank));
@@ -155,7 +183,7 @@ public final class ModelTest {
             case 4: return new Pair("list(" + p + ", " + v + ", " + is + ")", o -> o.list(p, v, is),
                     o -> o.list(p, v, is));
             case 5: {
-                boolean apart = random.nextInt(3) == 0;
+                boolean apart = random.nextInt(2) == 0;
                 return new Pair("keepApart(" + p + ", " + q + ", " + apart + ")", o -> o.keepApart(p, q, apart),
                         o -> o.keepApart(p, q, apart));
             }
@@ -180,7 +208,7 @@ public final class ModelTest {
             case 17:
             case 18: return new Pair("wish(" + p + ", " + v + ")", o -> o.wish(p, v), o -> o.wish(p, v));
             case 19: {
-                int n = random.nextInt(far ? 2 : 12) == 0 ? number(1, 30) : 1 + random.nextInt(2);
+                int n = random.nextInt(far ? 2 : dense ? 40 : 12) == 0 ? number(1, 30) : 1 + random.nextInt(2);
                 return new Pair("run(" + n + ")", o -> o.run(n), o -> o.run(n));
             }
             default: return set();
@@ -196,10 +224,10 @@ public final class ModelTest {
 
     private Pair look() {
         int p = prisoner();
-        int v = visitorOdd();
+        int v = random.nextInt(3) == 0 ? visitorOdd() : listed(p);
         int k = bookingNumber();
         int day = day();
-        int hour = number(0, 7);
+        int hour = random.nextBoolean() ? number(0, 7) : random.nextInt(2);
         switch (random.nextInt(14)) {
             case 0: {
                 int what = number(0, 10);
