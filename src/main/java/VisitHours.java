@@ -556,7 +556,7 @@ public final class VisitHours {
         }
 
         private int reasonOnDay(int p, int v, int day) {
-            if (!hasPair(p, v) || !hasBit(lists[p], v)) {
+            if (!hasPrisoner(p) || !hasVisitor(v) || !hasBit(lists[p], v)) {
                 return 1;
             }
             if (day < lostUpTo[p]) {

@@ -126,6 +126,33 @@ public final class AheadTest {
         Check.index("27 visitor 10", AheadTest::three, y -> y.firstTime(0, 10));
     }
 
+    /** One booth, and all the hours of the days 0 and 1 taken by the prisoners 1 to 4. */
+    private static VisitHours twoFullDays() {
+        VisitHours x = new VisitHours();
+        x.set(0, 1);
+        for (int p = 0; p < 5; p++) {
+            x.addPrisoner(3);
+            x.list(p, p, true);
+        }
+        for (int k = 0; k < 16; k++) {
+            x.book(k % 4 + 1, k % 4 + 1, k / 8, k % 8);
+        }
+        return x;
+    }
+
+    private static void fullDays() {
+        VisitHours x = twoFullDays();
+        Check.is("27 behind two full days", x.firstTime(0, 0), 16);
+        x.cancel(15);
+        Check.is("27 the last hour of the second day", x.firstTime(0, 0), 15);
+        x.cancel(7);
+        Check.is("27 the last hour of the first day", x.firstTime(0, 0), 7);
+        VisitHours wishing = twoFullDays();
+        wishing.wish(0, 0);
+        wishing.run(1);
+        Check.same("23 a wish behind two full days", Check.lineOf(wishing, 8), "2d0h0 p0 v0");
+    }
+
     /** Behind the last day for which one may book, wishes and firstTime have no limit. */
     private static void farAhead() {
         VisitHours x = Check.loaded("man,3;may,0,0");
@@ -216,9 +243,21 @@ public final class AheadTest {
         Check.is("29 the fourth", x.becomes(0), 0);
         x.book(1, 1, 1, 0);
         Check.is("29 three wishes still fit", x.becomes(1), 0);
+        x.book(0, 0, 0, 7);
+        Check.is("29 wishes of the very day count, too", x.becomes(0), 0);
+        x.undo();
         x.punish(1, 2);
         Check.is("29 the booking beside it is refused", x.becomes(1), 1);
         Check.is("29 then it is the first again", x.becomes(0), 0);
+    }
+
+    private static void becomesToday() {
+        VisitHours x = Check.loaded("man,3;man,3;may,0,0;may,1,1;has,0;book,0,0,0,7");
+        Check.is("29 today, the first", x.becomes(0), 0);
+        x.wish(1, 1);
+        Check.is("29 today, the second", x.becomes(0), 0);
+        x.wish(1, 1);
+        Check.is("29 today, the third, by wishes of today", x.becomes(0), 2);
     }
 
     private static VisitHours far() {
@@ -416,11 +455,13 @@ public final class AheadTest {
         reasonOfFull();
         whyNotArguments();
         firstTime();
+        fullDays();
         farAhead();
         coming();
         comingLater();
         becomes();
         becomesWithWishes();
+        becomesToday();
         becomesArguments();
         scriptCommands();
         scriptsOfSeveral();

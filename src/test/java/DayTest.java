@@ -292,6 +292,34 @@ public final class DayTest {
         Check.is("23 no wish waits", x.about(3), 0);
     }
 
+    private static void someOfTenWishes() {
+        VisitHours x = prisoners(3);
+        x.promote(1, 0);
+        int[] wishes = {10, 1, 11, 20, 12, 2, 21, 13, 3, 22};
+        for (int wish : wishes) {
+            x.wish(wish / 10, wish % 10);
+        }
+        runWithoutToday(x);
+        linesAre("23 one of the rank 0, all of the others", x, "1d0h0 p1 v0", "1d0h1 p0 v1", "1d1h0 p2 v0",
+                "1d1h1 p0 v2", "1d2h0 p2 v1", "1d2h1 p0 v3", "1d3h0 p2 v2");
+        int[] left = {11, 12, 13, NONE};
+        for (int k = 0; k < left.length; k++) {
+            Check.is("23 what waits still, " + k, x.wishAt(k), left[k]);
+        }
+        x.wish(2, 9);
+        Check.is("23 a new wish is behind them", x.wishAt(3), 29);
+        x.run(6);
+        x.promote(1, 3);
+        x.run(1);
+        Check.is("23 none waits in the next week", x.about(3), 0);
+        VisitHours ten = prisoners(4);
+        for (int i = 0; i < 10; i++) {
+            ten.wish(i % 4, i);
+        }
+        Check.is("23 ten at once", ten.run(1), 10);
+        Check.is("23 none is left", ten.about(3), 0);
+    }
+
     private static void wishesOfToday() {
         VisitHours x = prisoners(1);
         x.wish(0, 0);
@@ -361,6 +389,7 @@ public final class DayTest {
         visitsOfOtherWeeksCount();
         wishesFitTogether();
         wishesLookSevenDaysAhead();
+        someOfTenWishes();
         wishesOfToday();
         wishesThatWait();
         wishesStayBehindFullBookings();

@@ -208,6 +208,8 @@ public final class LookTest {
         Check.same("10 late by one digit", Check.lineOf(x, 4), "9999d7h0 p1 v4+5");
         Check.is("10 behind the line", x.line(0, 11), NONE);
         Check.is("10 far behind the line", x.line(0, Integer.MAX_VALUE), NONE);
+        x.late(4, 1);
+        Check.same("10 late by one minute", Check.lineOf(x, 4), "9999d7h0 p1 v4+1");
         Check.index("10 line of -1", LookTest::afterADay, y -> y.line(-1, 0));
         Check.index("10 line of 4", LookTest::afterADay, y -> y.line(4, 0));
         Check.index("10 line of 4 at -1", LookTest::afterADay, y -> y.line(4, -1));

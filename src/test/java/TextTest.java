@@ -135,6 +135,7 @@ public final class TextTest {
         Check.is("5 bookings", x.about(2), 2);
         Check.same("5 the second line", Check.lineOf(x, 1), "2d3h1 p1 v2");
         Check.is("5 wishes", x.about(3), 1);
+        Check.is("5 which wish", x.wishAt(0), 12);
         Check.state("5 undo behind load", () -> Check.loaded("man,3;run,1"), VisitHours::undo);
         Check.is("5 keeps the text", Check.loaded("man,3;run,1").clearText(), 11);
         Check.is("5 load twice", twice("man,3;run,1").about(0), 1);
