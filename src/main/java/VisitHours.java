@@ -588,6 +588,10 @@ public final class VisitHours {
 
         /** The first time, from today on, for which a booking is possible, as 8 * (day) + (hour). */
         int earliest(int p, int v, int days) {
+            // Else each hour of each day would be looked at for the last of the reasons.
+            if (bookings.isFull()) {
+                return NONE;
+            }
             for (int day = today; day < today + days; day++) {
                 boolean isOpen = reasonOnDay(p, v, day) == 0;
                 for (int hour = 0; isOpen && hour < HOURS; hour++) {
