@@ -9,15 +9,26 @@ final class Check {
 
     private static int checks = 0;
     private static int wrong = 0;
+    /** What the checks at hand are about; told ahead of each that is wrong. */
+    private static String title = "";
 
     private Check() {
+    }
+
+    /** Begins checks about something else. */
+    static void about(String newTitle) {
+        title = newTitle + ": ";
+    }
+
+    static int count() {
+        return checks;
     }
 
     static void is(String what, long got, long due) {
         checks++;
         if (got != due) {
             wrong++;
-            System.out.println(what + " answered " + got + ", due is " + due);
+            System.out.println(title + what + " answered " + got + ", due is " + due);
         }
     }
 
@@ -25,15 +36,14 @@ final class Check {
         checks++;
         if (!got.equals(due)) {
             wrong++;
-            System.out.println(what + " is\n  " + got + "\ndue is\n  " + due);
+            System.out.println(title + what + " is\n  " + got + "\ndue is\n  " + due);
         }
     }
 
     /** The call throws exactly this, and nothing becomes different. */
     static void refuses(String what, Class<?> due, Supplier<VisitHours> maker, Call call) {
-        VisitHours x = maker.get();
-        same(what, outcome(x, call), due.getSimpleName());
-        same(what + ": what there is then", everything(x), everything(maker.get()));
+        same(what, outcome(maker.get(), call), due.getSimpleName());
+        changesNothing(what, maker, call);
     }
 
     static void index(String what, Supplier<VisitHours> maker, Call call) {
@@ -50,9 +60,17 @@ final class Check {
 
     /** The call answers this and nothing becomes different. */
     static void looks(String what, int due, Supplier<VisitHours> maker, Call call) {
-        VisitHours x = maker.get();
-        same(what, outcome(x, call), Integer.toString(due));
-        same(what + ": what there is then", everything(x), everything(maker.get()));
+        same(what, outcome(maker.get(), call), Integer.toString(due));
+        changesNothing(what, maker, call);
+    }
+
+    private static void changesNothing(String what, Supplier<VisitHours> maker, Call call) {
+        String then = everything(() -> {
+            VisitHours x = maker.get();
+            outcome(x, call);
+            return x;
+        });
+        same(what + ": what there is then", then, everything(maker));
     }
 
     /** The answer of a call, or the name of what it throws. */
@@ -64,21 +82,28 @@ final class Check {
         }
     }
 
-    /** All that can be seen of an object, with the states it remembers and its save slots; x is used up then. */
-    static String everything(VisitHours x) {
-        StringBuilder all = new StringBuilder(visible(x));
-        all.append(" error ").append(x.errorPosition()).append(" length ").append(x.clearText());
-        while (true) {
-            String undone = outcome(x, VisitHours::undo);
-            all.append(" undo ").append(undone).append(" today ").append(x.about(1));
-            if (!Character.isDigit(undone.charAt(0))) {
-                break;
+    /**
+     * All that can be seen of what the maker makes: the state, each state that is remembered, the save slots and the
+     * text. Each part is asked of an object of its own, as one object is good for 512 calls alone.
+     */
+    static String everything(Supplier<VisitHours> maker) {
+        StringBuilder all = new StringBuilder(visible(maker.get()));
+        String undone = "0";
+        for (int undos = 1; undos <= 15 && !undone.startsWith("Illegal"); undos++) {
+            VisitHours x = maker.get();
+            for (int i = 0; i < undos; i++) {
+                undone = outcome(x, VisitHours::undo);
             }
+            all.append("\n  undo ").append(undone).append(' ').append(visible(x));
         }
         for (int slot = 0; slot < 2; slot++) {
             int chosen = slot;
-            all.append(" slot ").append(outcome(x, y -> y.restore(chosen))).append(' ').append(x.about(2));
+            VisitHours x = maker.get();
+            all.append("\n  slot ").append(outcome(x, y -> y.restore(chosen))).append(' ').append(visible(x));
         }
+        VisitHours text = maker.get();
+        all.append("\n  error ").append(text.errorPosition()).append(" load ").append(outcome(text, VisitHours::load));
+        all.append(' ').append(visible(text)).append(" length ").append(text.clearText());
         return all.toString();
     }
 

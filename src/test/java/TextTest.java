@@ -185,14 +185,19 @@ public final class TextTest {
     }
 
     private static void anew() {
-        VisitHours x = used();
-        Check.is("5 load of a used one", x.load(), 0);
-        VisitHours fresh = Check.loaded("man,1;may,0,3");
-        Check.same("5 as in a new object", Check.everything(x), Check.everything(fresh));
+        Check.is("5 load of a used one", used().load(), 0);
+        Check.same("5 as in a new object", Check.everything(TextTest::usedAndLoaded),
+                Check.everything(() -> Check.loaded("man,1;may,0,3")));
         VisitHours slots = used();
         slots.load();
         Check.same("5 slot 0 is empty", Check.outcome(slots, y -> y.restore(0)), "IllegalStateException");
         Check.same("5 slot 1 is empty", Check.outcome(slots, y -> y.restore(1)), "IllegalStateException");
+    }
+
+    private static VisitHours usedAndLoaded() {
+        VisitHours x = used();
+        x.load();
+        return x;
     }
 
     private static VisitHours spoiled(String behind) {
