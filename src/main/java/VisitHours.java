@@ -926,6 +926,9 @@ public final class VisitHours {
         }
 
         private boolean isAhead(int k, int day, int hour, int booth) {
+            if (k < 0 || k >= MOST) {
+                return false;
+            }
             int from = FIELDS * k;
             if (cells[from + DAY] != day) {
                 return cells[from + DAY] < day;
@@ -937,7 +940,7 @@ public final class VisitHours {
         }
 
         void remove(int k) {
-            if (has(k)) {
+            if (has(k) && count <= MOST) {
                 int next = FIELDS * (k + 1);
                 System.arraycopy(cells, next, cells, next - FIELDS, FIELDS * count - next);
                 count--;
@@ -956,7 +959,7 @@ public final class VisitHours {
 
         int countInWeek(int p, int week) {
             int found = 0;
-            for (int from = 0; from < FIELDS * count; from += FIELDS) {
+            for (int from = 0; from < FIELDS * count && from + FIELDS <= cells.length; from += FIELDS) {
                 if (cells[from + PRISONER] == p && cells[from + DAY] / Prison.WEEK == week) {
                     found++;
                 }
@@ -970,7 +973,7 @@ public final class VisitHours {
                 return 0;
             }
             int bits = 0;
-            for (int from = 0; from < FIELDS * count; from += FIELDS) {
+            for (int from = 0; from < FIELDS * count && from + FIELDS <= cells.length; from += FIELDS) {
                 if (cells[from + DAY] == day && cells[from + HOUR] == hour) {
                     bits |= 1 << cells[from + field];
                 }

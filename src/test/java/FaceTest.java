@@ -99,10 +99,43 @@ public final class FaceTest {
         }
     }
 
+    /** Rule 11: how many parameters, fields and classes there are. */
+    private static void sizes() {
+        List<Class<?>> classes = new ArrayList<>(List.of(VisitHours.class.getDeclaredClasses()));
+        classes.add(VisitHours.class);
+        Check.is("at most twelve classes", classes.size() <= 12 ? 1 : 0, 1);
+        for (Class<?> c : classes) {
+            long fields = Stream.of(c.getDeclaredFields()).filter(f -> !Modifier.isStatic(f.getModifiers())).count();
+            Check.is("at most twenty fields in " + c.getSimpleName(), fields <= 20 ? 1 : 0, 1);
+            for (Method m : c.getDeclaredMethods()) {
+                Check.is("at most seven parameters: " + m, m.getParameterCount() <= 7 ? 1 : 0, 1);
+            }
+        }
+    }
+
+    /** Rule 11: a method ends with a brace that stands as far in as it begins, sixty lines behind it at most. */
+    private static void lengths(String source) {
+        String[] lines = source.split("\n");
+        int methods = 0;
+        for (int i = 0; i < lines.length; i++) {
+            Matcher head = Pattern.compile("^( {4}| {8})(?!.*\\b(class|return|new|if|for|while|switch)\\b)\\w.*\\(.*")
+                    .matcher(lines[i]);
+            if (head.matches() && !lines[i].endsWith(";")) {
+                methods++;
+                int end = List.of(lines).subList(i, lines.length).indexOf(head.group(1) + "}");
+                Check.is("at most sixty lines: " + lines[i].strip(), end > 0 && end <= 60 ? 1 : 0, 1);
+            }
+        }
+        Check.is("methods were found", methods > 100 ? 1 : 0, 1);
+    }
+
     public static void main(String[] args) throws IOException {
+        String source = Files.readString(Path.of(args.length > 0 ? args[0] : "src/main/java/VisitHours.java"));
         face();
         innerNames();
-        rules(Files.readString(Path.of(args.length > 0 ? args[0] : "src/main/java/VisitHours.java")));
+        rules(source);
+        sizes();
+        lengths(source);
         Check.end();
     }
 }
